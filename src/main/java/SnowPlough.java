@@ -271,7 +271,6 @@ public final class SnowPlough {
     }
 
     public int planTurns(int roadClass, int kind) throws IllegalArgumentException, IllegalStateException {
-        checkClass(roadClass);
         checkKind(kind);
         Planner plans = solvedPlan(roadClass);
         if (plans.costOf(roadClass) == NONE) {

@@ -109,6 +109,9 @@ public final class PlanTest {
         Check.is("49 an empty plan at the depot", 0, t.planTime(1, true));
         t.drive(0, false);
         Check.is("49 an empty plan elsewhere", 30, t.planTime(1, true));
+        SnowPlough u = Check.loaded("node a 0 0;node b 1 0;road x a b 10 3 oneway;");
+        u.drive(0, false);
+        Check.is("49 an empty plan, but no way to the depot", -1, u.planTime(1, true));
         saltWhilePlanning();
     }
 
@@ -145,9 +148,13 @@ public final class PlanTest {
         turns(p, 3, 0, 1, 4, 1);
         turns(Check.loaded("node a 0 0;"), 3, 0, 0, 0, 0);
         turns(Check.loaded("node a 0 0;node b 1 0;road x a b 1 1 oneway;"), 1, -1, -1, -1, -1);
-        // The way from arc 0 to arc 8 and the way home are the best routes, of equal ones the lexicographically first.
         SnowPlough q = Check.loaded("node a 0 0;node b 1 0;node c 2 0;road x a b 1 1 oneway;road y b c 2 2;road z c a 1 3 oneway;");
         turns(q, 1, 1, 0, 0, 1);
+        // Two ways of equal cost lead to the only required arc: the lexicographically smaller one counts.
+        String corners = "node a 0 0;node b 1 0;node c 0 1;node d 1 1;node e 1 2;turns 3 3 3 3;";
+        String rest = "road r b d 1 2;road s c d 1 2;road t d e 1 1 oneway;road u e a 5 3 oneway;";
+        turns(Check.loaded(corners + "road p a b 1 2;road q a c 1 2;" + rest), 1, 1, 0, 2, 0);
+        turns(Check.loaded(corners + "road q a c 1 2;road p a b 1 2;" + rest), 1, 0, 1, 2, 0);
     }
 
     private static void turns(SnowPlough p, int roadClass, int... counts) {

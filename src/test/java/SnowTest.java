@@ -17,6 +17,7 @@ public final class SnowTest {
         promise61();
         promise62();
         promises64And65();
+        eachSecondCounts();
         cappedSnow();
         lateTimes();
         wrongArguments();
@@ -196,6 +197,23 @@ public final class SnowTest {
         q.drive(0, true);
         Check.is("65 the salted one has none", 1, q.deepestArcAfter(1, 100));
         Check.is("65 equal now", 0, q.deepestArcAfter(1, 0));
+    }
+
+    private static void eachSecondCounts() {
+        SnowPlough p = Check.loaded("node a 0 0;node b 1 0;road x a b 50 1;fall 36;");
+        p.drive(0, false);
+        p.waitFor(49);
+        Check.is("34 a second before", 0, p.deepestArc(1));
+        Check.is("35 a second before", 0, p.deepArcs(0));
+        Check.is("36 a second before", 0, p.totalSnow());
+        Check.is("37 a second before", 1, p.secondsToDepth(1, 1));
+        Check.is("64 a second before", 0, p.meanDepth(1));
+        Check.is("65 a second later", 1, p.deepestArcAfter(1, 1));
+        p.waitFor(1);
+        Check.is("34 then", 1, p.deepestArc(1));
+        Check.is("35 then", 2, p.deepArcs(0));
+        Check.is("36 then", 50, p.totalSnow());
+        Check.is("37 then", 0, p.secondsToDepth(1, 1));
     }
 
     private static void cappedSnow() {
