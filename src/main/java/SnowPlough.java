@@ -158,13 +158,13 @@ public final class SnowPlough {
     public int routeCost(int from, int to) throws IndexOutOfBoundsException {
         checkArc(from);
         checkArc(to);
-        return known(freshRoutes().fromArcToArc(from, to));
+        return known(freshRoutes().costBehind(from, to));
     }
 
     public int pathCost(int from, int to) throws IndexOutOfBoundsException {
         checkNode(from);
         checkNode(to);
-        return known(freshRoutes().fromNodeToNode(from, to));
+        return known(freshRoutes().costBetween(from, to));
     }
 
     public int pathArc(int from, int to, int index) throws IndexOutOfBoundsException, NoSuchElementException {
@@ -201,7 +201,7 @@ public final class SnowPlough {
 
     public int cycleCost(int arc) throws IndexOutOfBoundsException {
         checkArc(arc);
-        int back = freshRoutes().fromArcToNode(arc, network.beginOf(arc));
+        int back = freshRoutes().costBehind(arc, Routes.placeOf(network.beginOf(arc)));
         return known(network.lengthOf(arc) + back);
     }
 
@@ -356,7 +356,8 @@ public final class SnowPlough {
 
     public int nearestDeepArc(int limit) throws IllegalArgumentException {
         checkDepth(limit);
-        return freshRoutes().nearestArc(Routes.placeAt(world.place, world.last), world.deeperThan(limit));
+        int place = world.last == NONE ? Routes.placeOf(world.place) : world.last;
+        return freshRoutes().nearestArc(place, world.deeperThan(limit));
     }
 
     public int depthAfter(int arc, int seconds) throws IndexOutOfBoundsException, IllegalArgumentException {
@@ -1415,8 +1416,9 @@ public final class SnowPlough {
     }
 
     /**
-     * Least costs between arcs, and the best routes that follow from them. A route begins in a place: the place of
-     * an arc is behind it, so that the next turn costs, and a node's own place is there without a last arc.
+     * Least costs between places, and the best routes that follow from them. A place is an arc, by its number, or a
+     * node, by a number behind those of all arcs. A route that begins in an arc's place begins behind the arc, so that
+     * the next turn costs; one that ends there ends with the arc.
      */
     private static final class Routes {
         private static final int PLACES = MAX_ARCS + MAX_NODES;
@@ -1425,10 +1427,8 @@ public final class SnowPlough {
         int builtFor = NONE;
         /** The cost of the next arc from a place: the turn, if there is one, and the arc's length. */
         final int[] steps = new int[PLACES * MAX_ARCS];
-        /** The cost of the best route behind one arc that ends with another. */
-        final int[] arcCosts = new int[MAX_ARCS * MAX_ARCS];
-        /** The cost of the best route behind an arc that ends at a node. */
-        final int[] nodeCosts = new int[MAX_ARCS * MAX_NODES];
+        /** The cost of the best route behind an arc that ends in a place; 0 if the arc is or ends there. */
+        final int[] costs = new int[MAX_ARCS * PLACES];
         final int[] path = new int[MAX_ARCS];
         int pathSize = 0;
 
@@ -1441,8 +1441,7 @@ public final class SnowPlough {
                 return;
             }
             Arrays.fill(steps, FAR);
-            Arrays.fill(arcCosts, FAR);
-            Arrays.fill(nodeCosts, FAR);
+            Arrays.fill(costs, FAR);
             for (int arc = 0; arc < MAX_ARCS; arc++) {
                 if (network.hasArc(arc)) {
                     findStepsTo(arc);
@@ -1460,10 +1459,8 @@ public final class SnowPlough {
         private void findStepsTo(int to) {
             int begin = network.beginOf(to);
             int length = network.lengthOf(to);
-            for (int node = 0; node < MAX_NODES; node++) {
-                if (node == begin) {
-                    steps[(MAX_ARCS + node) * MAX_ARCS + to] = length;
-                }
+            if (begin >= 0 && begin < MAX_NODES) {
+                steps[placeOf(begin) * MAX_ARCS + to] = length;
             }
             for (int from = 0; from < MAX_ARCS; from++) {
                 if (network.hasArc(from) && network.endOf(from) == begin) {
@@ -1474,9 +1471,9 @@ public final class SnowPlough {
 
         /** Dijkstra's algorithm over arcs instead of nodes, because turns cost. */
         private void findArcCostsFrom(int source) {
-            int row = source * MAX_ARCS;
+            int row = source * PLACES;
             int settled = 0;
-            arcCosts[row + source] = 0;
+            costs[row + source] = 0;
             for (int round = 0; round < MAX_ARCS; round++) {
                 int nearest = nearestUnsettled(row, settled);
                 if (nearest == NONE) {
@@ -1484,8 +1481,8 @@ public final class SnowPlough {
                 }
                 settled |= 1 << nearest;
                 for (int to = 0; to < MAX_ARCS; to++) {
-                    int cost = arcCosts[row + nearest] + steps[nearest * MAX_ARCS + to];
-                    arcCosts[row + to] = Math.min(arcCosts[row + to], cost);
+                    int cost = costs[row + nearest] + steps[nearest * MAX_ARCS + to];
+                    costs[row + to] = Math.min(costs[row + to], cost);
                 }
             }
         }
@@ -1494,8 +1491,8 @@ public final class SnowPlough {
             int nearest = NONE;
             int least = FAR;
             for (int arc = 0; arc < MAX_ARCS; arc++) {
-                if (!contains(settled, arc) && arcCosts[row + arc] < least) {
-                    least = arcCosts[row + arc];
+                if (!contains(settled, arc) && costs[row + arc] < least) {
+                    least = costs[row + arc];
                     nearest = arc;
                 }
             }
@@ -1503,28 +1500,24 @@ public final class SnowPlough {
         }
 
         private void findNodeCostsFrom(int source) {
+            int row = source * PLACES;
             for (int arc = 0; arc < MAX_ARCS; arc++) {
                 int node = network.endOf(arc);
                 if (network.hasArc(arc) && node >= 0 && node < MAX_NODES) {
-                    int index = source * MAX_NODES + node;
-                    nodeCosts[index] = Math.min(nodeCosts[index], arcCosts[source * MAX_ARCS + arc]);
+                    int index = row + placeOf(node);
+                    costs[index] = Math.min(costs[index], costs[row + arc]);
                 }
             }
         }
 
-        /** The place at a node behind the last arc, which may be NONE. */
-        static int placeAt(int node, int last) {
-            return last == NONE ? MAX_ARCS + node : last;
+        static int placeOf(int node) {
+            return MAX_ARCS + node;
         }
 
-        int fromArcToArc(int from, int to) {
-            boolean inside = from >= 0 && from < MAX_ARCS && to >= 0 && to < MAX_ARCS;
-            return inside ? arcCosts[from * MAX_ARCS + to] : FAR;
-        }
-
-        int fromArcToNode(int arc, int node) {
-            boolean inside = arc >= 0 && arc < MAX_ARCS && node >= 0 && node < MAX_NODES;
-            return inside ? nodeCosts[arc * MAX_NODES + node] : FAR;
+        /** The cost of the best route behind an arc that ends in a place. */
+        int costBehind(int arc, int goal) {
+            boolean inside = arc >= 0 && arc < MAX_ARCS && goal >= 0 && goal < PLACES;
+            return inside ? costs[arc * PLACES + goal] : FAR;
         }
 
         private int stepCost(int place, int arc) {
@@ -1532,27 +1525,12 @@ public final class SnowPlough {
             return inside ? steps[place * MAX_ARCS + arc] : FAR;
         }
 
-        int fromNodeToNode(int from, int to) {
-            if (from == to) {
-                return 0;
-            }
-            int place = placeAt(from, NONE);
-            int first = firstArcToNode(place, to);
-            return first == NONE ? FAR : stepCost(place, first) + fromArcToNode(first, to);
-        }
-
-        /** The cost of the best route with at least one arc: a route may lead back to the arc that it begins behind. */
-        int fromPlaceToArc(int place, int to) {
-            int first = firstArcToArc(place, to);
-            return first == NONE ? FAR : stepCost(place, first) + fromArcToArc(first, to);
-        }
-
-        /** The lowest arc with which a least route to another node begins, and so the best route. */
-        int firstArcToNode(int place, int to) {
+        /** The lowest arc with which a least route of at least one arc begins, and so the best route. */
+        int firstArc(int place, int goal) {
             int first = NONE;
             int least = FAR;
             for (int arc = 0; arc < MAX_ARCS; arc++) {
-                int cost = stepCost(place, arc) + fromArcToNode(arc, to);
+                int cost = stepCost(place, arc) + costBehind(arc, goal);
                 if (cost < least) {
                     least = cost;
                     first = arc;
@@ -1561,27 +1539,24 @@ public final class SnowPlough {
             return first;
         }
 
-        int firstArcToArc(int place, int to) {
-            int first = NONE;
-            int least = FAR;
-            for (int arc = 0; arc < MAX_ARCS; arc++) {
-                int cost = stepCost(place, arc) + fromArcToArc(arc, to);
-                if (cost < least) {
-                    least = cost;
-                    first = arc;
-                }
-            }
-            return first;
+        /** The cost of the best route of at least one arc: it may lead back to the place where it begins. */
+        int costFrom(int place, int goal) {
+            int first = firstArc(place, goal);
+            return first == NONE ? FAR : stepCost(place, first) + costBehind(first, goal);
+        }
+
+        int costBetween(int from, int to) {
+            return from == to ? 0 : costFrom(placeOf(from), placeOf(to));
         }
 
         /** Puts the best route between two nodes into the path; false if there is none. */
         boolean findPath(int from, int to) {
             pathSize = 0;
             int node = from;
-            int place = placeAt(from, NONE);
+            int place = placeOf(from);
             // Each arc costs: a best route drives none twice, and ends as soon as it is there.
             for (int i = 0; i < MAX_ARCS && node != to; i++) {
-                int arc = firstArcToNode(place, to);
+                int arc = firstArc(place, placeOf(to));
                 if (arc == NONE) {
                     return false;
                 }
@@ -1596,7 +1571,7 @@ public final class SnowPlough {
         int farthestFrom(int node) {
             int farthest = 0;
             for (int to = 0; to < network.nodes; to++) {
-                farthest = Math.max(farthest, fromNodeToNode(node, to));
+                farthest = Math.max(farthest, costBetween(node, to));
             }
             return farthest;
         }
@@ -1605,7 +1580,7 @@ public final class SnowPlough {
             int nearest = NONE;
             int least = FAR;
             for (int arc = 0; arc < MAX_ARCS; arc++) {
-                int cost = contains(set, arc) ? fromPlaceToArc(place, arc) : FAR;
+                int cost = contains(set, arc) ? costFrom(place, arc) : FAR;
                 if (cost < least) {
                     least = cost;
                     nearest = arc;
@@ -1616,19 +1591,19 @@ public final class SnowPlough {
 
         int greedyCost(int required) {
             int missing = required;
-            int place = placeAt(network.depot, NONE);
+            int place = placeOf(network.depot);
             int cost = 0;
             for (int i = 0; i < MAX_ARCS && missing != 0; i++) {
                 int arc = nearestArc(place, missing);
                 if (arc == NONE) {
                     return NONE;
                 }
-                cost += fromPlaceToArc(place, arc);
+                cost += costFrom(place, arc);
                 // The route has no other missing arc: that one would have been nearer.
                 missing &= ~(1 << arc);
                 place = arc;
             }
-            return required == 0 ? 0 : known(cost + fromArcToNode(place, network.depot));
+            return required == 0 ? 0 : known(cost + costBehind(place, placeOf(network.depot)));
         }
     }
 
@@ -1692,7 +1667,7 @@ public final class SnowPlough {
             for (int arc = 0; arc < MAX_ARCS; arc++) {
                 if (contains(set, arc) && count < MAX_PLAN) {
                     items[count] = arc;
-                    entries[count] = routes.fromPlaceToArc(Routes.placeAt(network.depot, NONE), arc);
+                    entries[count] = routes.costFrom(Routes.placeOf(network.depot), arc);
                     count++;
                 }
             }
@@ -1715,7 +1690,7 @@ public final class SnowPlough {
         /** The least cost of the tour behind the last item (NONE: of all of it) that has the missing ones. */
         private int bestCost(int last, int missing) {
             if (missing == 0) {
-                return routes.fromArcToNode(last == NONE ? NONE : items[last], network.depot);
+                return routes.costBehind(last == NONE ? NONE : items[last], Routes.placeOf(network.depot));
             }
             int least = FAR;
             for (int next = 0; next < count; next++) {
@@ -1727,7 +1702,7 @@ public final class SnowPlough {
         }
 
         private int costThrough(int last, int next, int missing) {
-            int way = last == NONE ? entries[next] : routes.fromArcToArc(items[last], items[next]);
+            int way = last == NONE ? entries[next] : routes.costBehind(items[last], items[next]);
             return way + rests[(missing & ~(1 << next)) * count + next];
         }
 
@@ -1752,13 +1727,13 @@ public final class SnowPlough {
             for (int i = 0; i < sizeOf(roadClass); i++) {
                 int target = arcAt(roadClass, i);
                 for (int step = 0; step < MAX_ARCS && last != target; step++) {
-                    int arc = routes.firstArcToArc(Routes.placeAt(network.depot, last), target);
+                    int arc = routes.firstArc(last == NONE ? Routes.placeOf(network.depot) : last, target);
                     turns += isTurn(last, arc, kind);
                     last = arc;
                 }
             }
             for (int step = 0; step < MAX_ARCS && last != NONE && network.endOf(last) != network.depot; step++) {
-                int arc = routes.firstArcToNode(last, network.depot);
+                int arc = routes.firstArc(last, Routes.placeOf(network.depot));
                 turns += isTurn(last, arc, kind);
                 last = arc;
             }
