@@ -596,6 +596,10 @@ public final class SnowPlough {
         return name * 27 + letter - 'a' + 1;
     }
 
+    private static boolean isLetter(int sign) {
+        return sign >= 'a' && sign <= 'z';
+    }
+
     private static int known(int cost) {
         return cost >= FAR ? NONE : cost;
     }
@@ -683,7 +687,7 @@ public final class SnowPlough {
             }
             int name = 0;
             for (int i = 0; i < size; i++) {
-                if (bytes[i] < 'a' || bytes[i] > 'z') {
+                if (!isLetter(bytes[i])) {
                     return NONE;
                 }
                 name = nameWith(name, bytes[i]);
@@ -966,9 +970,9 @@ public final class SnowPlough {
             keyword = NONE;
             if (start >= input.size) {
                 sort = END;
-            } else if (isBetween('a', 'z')) {
+            } else if (isLetter(input.bytes[start])) {
                 takeWord();
-            } else if (isBetween('0', '9')) {
+            } else if (isDigit(input.bytes[start])) {
                 takeNumber();
             } else {
                 sort = SYMBOL;
@@ -980,7 +984,7 @@ public final class SnowPlough {
         private void takeWord() {
             sort = WORD;
             value = 0;
-            while (isBetween('a', 'z')) {
+            while (end < input.size && isLetter(input.bytes[end])) {
                 boolean fits = end - start < MAX_NAME;
                 value = fits ? nameWith(value, input.bytes[end]) : NONE;
                 end++;
@@ -995,15 +999,14 @@ public final class SnowPlough {
         private void takeNumber() {
             sort = NUMBER;
             value = 0;
-            while (isBetween('0', '9')) {
+            while (end < input.size && isDigit(input.bytes[end])) {
                 value = Math.min(HUGE, value * 10 + input.bytes[end] - '0');
                 end++;
             }
         }
 
-        /** Tells whether the byte behind the token as it is so far is one of these. */
-        private boolean isBetween(char least, char greatest) {
-            return end < input.size && input.bytes[end] >= least && input.bytes[end] <= greatest;
+        private static boolean isDigit(int sign) {
+            return sign >= '0' && sign <= '9';
         }
     }
 
