@@ -9,6 +9,7 @@ public final class RouteBoundsTest {
         turnsByAHair();
         turnsAround();
         routesWithTheirTurns();
+        theCheapWayIsFoundLate();
         equalCosts();
         indexesOfAPath();
         reachableSets();
@@ -184,6 +185,19 @@ public final class RouteBoundsTest {
             Check.is("18 length " + length, Math.min(7, length), q.pathCost(0, 2));
             Check.is("19 length " + length, length < 7 ? 4 : 0, q.pathArc(0, 2, 0));
         }
+    }
+
+    /** The dear arc has the higher number than the cheap one beside it, and the arcs behind both have higher ones still. */
+    private static void theCheapWayIsFoundLate() {
+        String ends = "road z c d 1 1 oneway;road w d e 1 1 oneway;";
+        String nodes = TWO + "node c 2 0;node d 3 0;node e 4 0;road s a b 1 1 oneway;";
+        SnowPlough p = Check.loaded(nodes + "road y b c 1 1 oneway;road x b c 9 1 oneway;" + ends);
+        Check.is("18", 4, p.pathCost(0, 4));
+        Check.is("17", 3, p.routeCost(0, 8));
+        path(p, 0, 4, 0, 2, 6, 8);
+        SnowPlough q = Check.loaded(nodes + ends + "road x b c 9 1 oneway;road y b c 1 1 oneway;");
+        Check.is("18", 4, q.pathCost(0, 4));
+        path(q, 0, 4, 0, 8, 2, 4);
     }
 
     /** 'Of two routes of equal cost the one with the lexicographically smaller sequence of arc numbers is better.' */
